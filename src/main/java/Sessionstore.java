@@ -259,7 +259,8 @@ public final class Sessionstore {
 
   // ---- what is typed and run
 
-  public int say(int session, int a, int b, int c, int d, int e) {
+  public int say(int session, int a, int b, int c, int d, int e)
+      throws IndexOutOfBoundsException, IllegalArgumentException, IllegalStateException {
     needSession(session);
     if (!isTyped(a) || !isTyped(b) || !isTyped(c) || !isTyped(d) || !isTyped(e)) {
       throw new IllegalArgumentException("no token");
@@ -278,7 +279,8 @@ public final class Sessionstore {
     return s.typedCount;
   }
 
-  public int sample(int session, int sample, int x, int y) {
+  public int sample(int session, int sample, int x, int y)
+      throws IndexOutOfBoundsException, IllegalArgumentException, IllegalStateException {
     needSession(session);
     if (sample < 0 || sample >= SAMPLES || x < 0 || x >= NUMBERS || y < 0 || y >= NUMBERS) {
       throw new IllegalArgumentException("no sample, or no number");
@@ -298,7 +300,8 @@ public final class Sessionstore {
     return s.typedCount;
   }
 
-  public int wipe(int session, int many) {
+  public int wipe(int session, int many)
+      throws IndexOutOfBoundsException, IllegalArgumentException, IllegalStateException {
     needSession(session);
     needMany(many);
     needPower();
@@ -307,7 +310,8 @@ public final class Sessionstore {
     return s.typedCount;
   }
 
-  public int run(int session) {
+  public int run(int session)
+      throws IndexOutOfBoundsException, IllegalStateException {
     needSession(session);
     needPower();
     needNoWait(session);
@@ -326,7 +330,8 @@ public final class Sessionstore {
     return codeOf(s);
   }
 
-  public int begin(int session, int level) {
+  public int begin(int session, int level)
+      throws IndexOutOfBoundsException, IllegalArgumentException, IllegalStateException {
     needSession(session);
     if (level < LATEST || level > SERIAL) {
       throw new IllegalArgumentException("no level");
@@ -341,7 +346,8 @@ public final class Sessionstore {
     return lastNumber;
   }
 
-  public int commit(int session) {
+  public int commit(int session)
+      throws IndexOutOfBoundsException, IllegalStateException {
     needSession(session);
     needPower();
     needTransaction(session);
@@ -351,7 +357,8 @@ public final class Sessionstore {
     return number;
   }
 
-  public int rollback(int session) {
+  public int rollback(int session)
+      throws IndexOutOfBoundsException, IllegalStateException {
     needSession(session);
     needPower();
     needTransaction(session);
@@ -365,7 +372,8 @@ public final class Sessionstore {
     return many;
   }
 
-  public int savepoint(int session, int k) {
+  public int savepoint(int session, int k)
+      throws IndexOutOfBoundsException, IllegalArgumentException, IllegalStateException {
     needSession(session);
     needPoint(k);
     needPower();
@@ -379,7 +387,8 @@ public final class Sessionstore {
     return s.countChanged();
   }
 
-  public int back(int session, int k) {
+  public int back(int session, int k)
+      throws IndexOutOfBoundsException, IllegalArgumentException, IllegalStateException {
     needSession(session);
     needPoint(k);
     needPower();
@@ -397,7 +406,8 @@ public final class Sessionstore {
     return many;
   }
 
-  public int giveUp(int session) {
+  public int giveUp(int session)
+      throws IndexOutOfBoundsException, IllegalStateException {
     needSession(session);
     needPower();
     Session s = sessions[session];
@@ -416,14 +426,16 @@ public final class Sessionstore {
 
   // ---- the disc
 
-  public int lazy(boolean isLazy) {
+  public int lazy(boolean isLazy)
+      throws IllegalStateException {
     needPower();
     int was = store.isLazy ? 1 : 0;
     store.isLazy = isLazy;
     return was;
   }
 
-  public int safe(int many) {
+  public int safe(int many)
+      throws IllegalArgumentException, IllegalStateException {
     needMany(many);
     needPower();
     int left = store.records - store.safe;
@@ -431,7 +443,8 @@ public final class Sessionstore {
     return store.safe;
   }
 
-  public int pages(int many) {
+  public int pages(int many)
+      throws IllegalArgumentException, IllegalStateException {
     if (many < 1 || many > 20) {
       throw new IllegalArgumentException("not 1 to 20 pages");
     }
@@ -439,13 +452,15 @@ public final class Sessionstore {
     return store.safe;
   }
 
-  public int checkpoint() {
+  public int checkpoint()
+      throws IllegalStateException {
     needPower();
     store.secure(store.records);
     return store.safe;
   }
 
-  public int crash(boolean isTorn) {
+  public int crash(boolean isTorn)
+      throws IllegalStateException {
     needPower();
     int many = store.last - store.safeLast;
     store.fail();
@@ -464,7 +479,8 @@ public final class Sessionstore {
     return many;
   }
 
-  public int recover(int steps) {
+  public int recover(int steps)
+      throws IllegalArgumentException, IllegalStateException {
     if (steps < NONE || steps > 99) {
       throw new IllegalArgumentException("not -1 to 99 steps");
     }
@@ -478,7 +494,8 @@ public final class Sessionstore {
     return store.last;
   }
 
-  public int vacuum() {
+  public int vacuum()
+      throws IllegalStateException {
     needPower();
     int least = lowest();
     int many = 0;
@@ -497,7 +514,8 @@ public final class Sessionstore {
 
   // ---- what is asked of sessions
 
-  public String typed(int session) {
+  public String typed(int session)
+      throws IndexOutOfBoundsException, IllegalStateException {
     needSession(session);
     needPower();
     text.setLength(0);
@@ -505,7 +523,8 @@ public final class Sessionstore {
     return text.toString();
   }
 
-  public int fault(int session, int what) {
+  public int fault(int session, int what)
+      throws IndexOutOfBoundsException, IllegalArgumentException, IllegalStateException {
     needSession(session);
     needWhat(what, 1);
     needPower();
@@ -513,7 +532,8 @@ public final class Sessionstore {
     return what == 0 ? spare.fault : spare.faultPlace;
   }
 
-  public int token(int session, int place) {
+  public int token(int session, int place)
+      throws IndexOutOfBoundsException, IllegalStateException {
     needSession(session);
     Session s = sessions[session];
     if (place < 0 || place >= s.typedCount || place >= TOKENS_MOST) {
@@ -523,14 +543,16 @@ public final class Sessionstore {
     return s.typed[place];
   }
 
-  public int result(int session, int what) {
+  public int result(int session, int what)
+      throws IndexOutOfBoundsException, IllegalArgumentException, IllegalStateException {
     needSession(session);
     needWhat(what, R_ALL - 1);
     needPower();
     return sessions[session].outcome[what];
   }
 
-  public String answer(int session) {
+  public String answer(int session)
+      throws IndexOutOfBoundsException, IllegalStateException {
     needSession(session);
     needPower();
     text.setLength(0);
@@ -538,7 +560,8 @@ public final class Sessionstore {
     return text.toString();
   }
 
-  public int value(int session, int row, int column) {
+  public int value(int session, int row, int column)
+      throws IndexOutOfBoundsException, IllegalStateException {
     needSession(session);
     Session s = sessions[session];
     boolean isThere = row >= 0 && row < s.told.count && column >= 0 && column < s.told.width;
@@ -549,7 +572,8 @@ public final class Sessionstore {
     return s.told.at(row, column);
   }
 
-  public int ofSession(int session, int what) {
+  public int ofSession(int session, int what)
+      throws IndexOutOfBoundsException, IllegalArgumentException, IllegalStateException {
     needSession(session);
     needWhat(what, 7);
     needPower();
@@ -567,21 +591,24 @@ public final class Sessionstore {
     }
   }
 
-  public int locks(int session, int table, boolean isWrite) {
+  public int locks(int session, int table, boolean isWrite)
+      throws IndexOutOfBoundsException, IllegalStateException {
     needSession(session);
     needTable(table);
     needPower();
     return isWrite ? sessions[session].write[table] : sessions[session].read[table];
   }
 
-  public int changed(int session, int table) {
+  public int changed(int session, int table)
+      throws IndexOutOfBoundsException, IllegalStateException {
     needSession(session);
     needTable(table);
     needPower();
     return sessions[session].changes.touched[table];
   }
 
-  public int writer(int table, int key) {
+  public int writer(int table, int key)
+      throws IndexOutOfBoundsException, IllegalArgumentException, IllegalStateException {
     needTable(table);
     needKey(key);
     needPower();
@@ -593,7 +620,8 @@ public final class Sessionstore {
     return NONE;
   }
 
-  public String seen(int session, int table) {
+  public String seen(int session, int table)
+      throws IndexOutOfBoundsException, IllegalStateException {
     needSession(session);
     needTable(table);
     needPower();
@@ -603,7 +631,8 @@ public final class Sessionstore {
     return text.toString();
   }
 
-  public boolean seesCommitted(int session, int table) {
+  public boolean seesCommitted(int session, int table)
+      throws IndexOutOfBoundsException, IllegalStateException {
     needSession(session);
     needTable(table);
     needPower();
@@ -611,7 +640,8 @@ public final class Sessionstore {
     return planner.view.isLikeIn(table, committed);
   }
 
-  public int tried(int session) {
+  public int tried(int session)
+      throws IndexOutOfBoundsException, IllegalStateException {
     needSession(session);
     needPower();
     needNoWait(session);
@@ -629,7 +659,8 @@ public final class Sessionstore {
     return error != 0 ? -10 - error : planner.count;
   }
 
-  public String wouldFind(int session) {
+  public String wouldFind(int session)
+      throws IndexOutOfBoundsException, IllegalStateException {
     needSession(session);
     needPower();
     needNoWait(session);
@@ -646,7 +677,8 @@ public final class Sessionstore {
 
   // ---- what is asked of tables
 
-  public int ofTable(int table, int what) {
+  public int ofTable(int table, int what)
+      throws IndexOutOfBoundsException, IllegalArgumentException, IllegalStateException {
     needTable(table);
     needWhat(what, 5);
     needPower();
@@ -661,7 +693,8 @@ public final class Sessionstore {
     }
   }
 
-  public int ofColumn(int table, int column, int what) {
+  public int ofColumn(int table, int column, int what)
+      throws IndexOutOfBoundsException, IllegalArgumentException, IllegalStateException {
     needColumn(table, column);
     needWhat(what, 2);
     needPower();
@@ -673,7 +706,8 @@ public final class Sessionstore {
     }
   }
 
-  public String table(int table) {
+  public String table(int table)
+      throws IndexOutOfBoundsException, IllegalStateException {
     needTable(table);
     needPower();
     text.setLength(0);
@@ -681,14 +715,16 @@ public final class Sessionstore {
     return text.toString();
   }
 
-  public int cell(int table, int key, int column) {
+  public int cell(int table, int key, int column)
+      throws IndexOutOfBoundsException, IllegalArgumentException, IllegalStateException {
     needColumn(table, column);
     needKey(key);
     needPower();
     return committed.holds(table, key) ? committed.cellAt(table, key, column) : NO_ROW;
   }
 
-  public int found(int table, int column, int value) {
+  public int found(int table, int column, int value)
+      throws IndexOutOfBoundsException, IllegalArgumentException, IllegalStateException {
     needColumn(table, column);
     if (value < -BOUND || value > BOUND) {
       throw new IllegalArgumentException("no value");
@@ -697,7 +733,8 @@ public final class Sessionstore {
     return committed.keysWith(table, column, value);
   }
 
-  public int referring(int table, int key) {
+  public int referring(int table, int key)
+      throws IndexOutOfBoundsException, IllegalArgumentException, IllegalStateException {
     needTable(table);
     needKey(key);
     needPower();
@@ -712,7 +749,8 @@ public final class Sessionstore {
     return many;
   }
 
-  public String versions(int table, int key) {
+  public String versions(int table, int key)
+      throws IndexOutOfBoundsException, IllegalArgumentException, IllegalStateException {
     needTable(table);
     needKey(key);
     needPower();
@@ -721,7 +759,8 @@ public final class Sessionstore {
     return text.toString();
   }
 
-  public String made(int table) {
+  public String made(int table)
+      throws IndexOutOfBoundsException, IllegalStateException {
     needTable(table);
     needPower();
     text.setLength(0);
@@ -733,26 +772,30 @@ public final class Sessionstore {
 
   // ---- the whole
 
-  public String order() {
+  public String order()
+      throws IllegalStateException {
     needPower();
     text.setLength(0);
     writeOrder();
     return text.toString();
   }
 
-  public int low() {
+  public int low()
+      throws IllegalStateException {
     needPower();
     return lowest();
   }
 
-  public String waits() {
+  public String waits()
+      throws IllegalStateException {
     needPower();
     text.setLength(0);
     writeWaits();
     return text.toString();
   }
 
-  public int disc(int what) {
+  public int disc(int what)
+      throws IllegalArgumentException {
     needWhat(what, 5);
     switch (what) {
       case 0: return store.records;
@@ -764,7 +807,8 @@ public final class Sessionstore {
     }
   }
 
-  public int house(int what) {
+  public int house(int what)
+      throws IllegalArgumentException, IllegalStateException {
     needWhat(what, 7);
     if (what == 5) {
       return refused;
@@ -793,7 +837,11 @@ public final class Sessionstore {
     if (!store.isOn) {
       return true;
     }
-    return planner.holdsAlways(committed) && store.isFoundAgain() && ringSet() == 0 && witness.isTrue();
+    boolean isSo = planner.holdsAlways(committed) && store.isFoundAgain() && ringSet() == 0;
+    for (int i = 0; i < REPLAYS && isSo; i++) {
+      isSo = witness.isSame(i);
+    }
+    return isSo;
   }
 
   public long digest() {
@@ -1366,17 +1414,18 @@ public final class Sessionstore {
     }
 
     boolean holds(int table, int key) {
-      return isTable(table) && key >= 0 && key < KEYS && (has[table] & (1 << key)) != 0;
+      boolean isThere = table >= 0 && table < TABLES && key >= 0 && key < KEYS;
+      return isThere && (has[table] & (1 << key)) != 0;
     }
 
     int cellAt(int table, int key, int column) {
-      boolean isThere = isTable(table) && key >= 0 && key < KEYS && column >= 0 && column < COLUMNS;
-      return isThere ? cells[(table * KEYS + key) * COLUMNS + column] : NULL;
+      boolean isThere = table >= 0 && table < TABLES && key >= 0 && key < KEYS;
+      return isThere && column >= 0 && column < COLUMNS ? cells[(table * KEYS + key) * COLUMNS + column] : NULL;
     }
 
     /** Puts a row that stands in an array; its other columns are NULL, so that like rows are alike. */
     void put(int table, int key, int[] from, int start, int width) {
-      if (!isTable(table) || key < 0 || key >= KEYS) {
+      if (table < 0 || table >= TABLES || key < 0 || key >= KEYS) {
         return;
       }
       int to = (table * KEYS + key) * COLUMNS;
@@ -1777,17 +1826,13 @@ public final class Sessionstore {
         from = i;
       }
       for (int i = from; i < versions.count && versions.at(i, V_COMMIT) <= safeLast; i++) {
-        lay(i, image);
-      }
-    }
-
-    private void lay(int version, Image to) {
-      int table = versions.at(version, V_TABLE);
-      int key = versions.at(version, V_KEY);
-      if (versions.at(version, V_ROW) == 1) {
-        to.put(table, key, versions.cells, version * V_WIDTH + V_CELLS, COLUMNS);
-      } else {
-        to.remove(table, 1 << key);
+        int table = versions.at(i, V_TABLE);
+        int key = versions.at(i, V_KEY);
+        if (versions.at(i, V_ROW) == 1) {
+          image.put(table, key, versions.cells, i * V_WIDTH + V_CELLS, COLUMNS);
+        } else {
+          image.remove(table, 1 << key);
+        }
       }
     }
 
@@ -2013,14 +2058,20 @@ public final class Sessionstore {
       return place >= 0 && place < size && place < TOKENS_MOST ? tokens[place] : NONE;
     }
 
-    int add(int kind, int place) {
-      if (count >= NODES_MOST) {
+    /** A node that stands at that place in that part of that query. */
+    int add(int kind, int place, int query, int clause, boolean isInner) {
+      if (count < 0 || count >= NODES_MOST) {
         return NONE;
       }
       int spot = count * N_WIDTH;
-      Arrays.fill(nodes, spot, spot + N_WIDTH, NONE);
+      for (int i = 0; i < N_WIDTH; i++) {
+        nodes[spot + i] = NONE;
+      }
       nodes[spot + N_KIND] = kind;
       nodes[spot + N_PLACE] = place;
+      nodes[spot + N_QUERY] = query;
+      nodes[spot + N_CLAUSE] = clause;
+      nodes[spot + N_INNER] = isInner ? 1 : 0;
       count++;
       return count - 1;
     }
@@ -2228,9 +2279,19 @@ public final class Sessionstore {
       } else if (verb >= INSERT && verb <= INDEX && verb != VALUES && verb != SET) {
         at++;
         tree.table = readTable();
-        readRest(verb);
+        switch (verb) {
+          case INSERT: readInsert(); break;
+          case UPDATE: readSets(); break;
+          case CREATE: readSpecs(); break;
+          case INDEX: tree.list = readColumn(K_SPEC); break;
+          default: break;
+        }
       } else {
         fail();
+      }
+      if (verb == UPDATE || verb == DELETE) {
+        clause = IN_WHERE;
+        tree.cond = take(WHERE) ? readCond(0) : NONE;
       }
       if (broken == NONE && at < tree.size) {
         broken = at;
@@ -2241,22 +2302,10 @@ public final class Sessionstore {
       }
     }
 
-    private void readRest(int verb) {
-      switch (verb) {
-        case INSERT: readInsert(); break;
-        case UPDATE: readSets(); break;
-        case CREATE: readSpecs(); break;
-        case INDEX: tree.list = readColumn(K_SPEC); break;
-        default: break;
-      }
-      if (verb == UPDATE || verb == DELETE) {
-        clause = IN_WHERE;
-        tree.cond = take(WHERE) ? readCond(0) : NONE;
-      }
-    }
-
+    /** The next token; NONE at the end, and behind what can not stand. */
     private int peek() {
-      return broken == NONE ? tree.tokenAt(at) : NONE;
+      boolean isNext = broken == NONE && at >= 0 && at < tree.size && at < TOKENS_MOST;
+      return isNext ? tree.tokens[at] : NONE;
     }
 
     private void fail() {
@@ -2266,13 +2315,14 @@ public final class Sessionstore {
     }
 
     private boolean take(int token) {
-      boolean isNext = broken == NONE && tree.tokenAt(at) == token;
+      boolean isNext = broken == NONE && at >= 0 && at < tree.size && at < TOKENS_MOST;
+      isNext = isNext && tree.tokens[at] == token;
       at += isNext ? 1 : 0;
       return isNext;
     }
 
     private void expect(int token) {
-      if (broken == NONE && tree.tokenAt(at) == token) {
+      if (peek() == token) {
         at++;
       } else if (broken == NONE) {
         broken = at;
@@ -2281,7 +2331,7 @@ public final class Sessionstore {
 
     /** Opens what counts for the nesting. */
     private boolean open(int token, int depth) {
-      boolean isNext = broken == NONE && tree.tokenAt(at) == token && depth < NESTS;
+      boolean isNext = peek() == token && depth < NESTS;
       if (isNext) {
         at++;
       } else if (broken == NONE) {
@@ -2291,8 +2341,8 @@ public final class Sessionstore {
     }
 
     private int readTable() {
-      int table = broken == NONE ? tree.tokenAt(at) - TABLE_0 : NONE;
-      if (isTable(table)) {
+      int table = peek() - TABLE_0;
+      if (table >= 0 && table < TABLES) {
         at++;
         return table;
       }
@@ -2302,14 +2352,6 @@ public final class Sessionstore {
       return NONE;
     }
 
-    private int node(int kind, int place) {
-      int node = tree.add(kind, place);
-      tree.put(node, N_QUERY, query);
-      tree.put(node, N_CLAUSE, clause);
-      tree.put(node, N_INNER, isInner ? 1 : 0);
-      return node;
-    }
-
     /** A node for a column behind set, in index or create. */
     private int readColumn(int kind) {
       int column = peek() - COLUMN_0;
@@ -2317,7 +2359,7 @@ public final class Sessionstore {
         fail();
         return NONE;
       }
-      int node = node(kind, at);
+      int node = tree.add(kind, at, query, clause, isInner);
       tree.put(node, N_ARG, column);
       at++;
       return node;
@@ -2444,7 +2486,13 @@ public final class Sessionstore {
       if (take(GROUP)) {
         clause = IN_GROUP;
         q.isGrouped = true;
-        q.group = readRefs();
+        q.group = readRef();
+        int last = q.group;
+        for (int i = 0; i < TOKENS_MOST && take(COMMA); i++) {
+          int next = readRef();
+          tree.put(last, N_NEXT, next);
+          last = next;
+        }
         q.groups = tree.countFrom(q.group);
       }
       if (take(HAVING)) {
@@ -2466,17 +2514,6 @@ public final class Sessionstore {
           at++;
         }
       }
-    }
-
-    private int readRefs() {
-      int first = readRef();
-      int last = first;
-      for (int i = 0; i < TOKENS_MOST && take(COMMA); i++) {
-        int next = readRef();
-        tree.put(last, N_NEXT, next);
-        last = next;
-      }
-      return first;
     }
 
     private int readItems(int depth) {
@@ -2513,7 +2550,7 @@ public final class Sessionstore {
       if (peek() != one && peek() != other) {
         return first;
       }
-      int chain = node(kind, at);
+      int chain = tree.add(kind, at, query, clause, isInner);
       tree.put(chain, N_FIRST, first);
       int last = first;
       for (int i = 0; i < TOKENS_MOST && (peek() == one || peek() == other); i++) {
@@ -2532,7 +2569,7 @@ public final class Sessionstore {
       int place = at;
       if (token >= NUMBERS || token == NULL_WORD) {
         at++;
-        int node = node(K_NUMBER, place);
+        int node = tree.add(K_NUMBER, place, query, clause, isInner);
         tree.put(node, N_ARG, token == NULL_WORD ? NULL : token - NUMBERS);
         return node;
       }
@@ -2540,7 +2577,7 @@ public final class Sessionstore {
         if (!open(MINUS, depth)) {
           return NONE;
         }
-        int node = node(K_NEGATIVE, place);
+        int node = tree.add(K_NEGATIVE, place, query, clause, isInner);
         tree.put(node, N_FIRST, readFactor(depth + 1));
         return node;
       }
@@ -2560,7 +2597,7 @@ public final class Sessionstore {
       }
       int node;
       if (peek() == SELECT) {
-        node = node(K_SUBQUERY, place);
+        node = tree.add(K_SUBQUERY, place, query, clause, isInner);
         tree.put(node, N_MORE, readQuery(depth + 1, AS_VALUE));
       } else {
         node = readExpr(depth + 1);
@@ -2571,7 +2608,7 @@ public final class Sessionstore {
 
     private int readAggregate(int depth) {
       int which = peek();
-      int node = node(K_AGGREGATE, at);
+      int node = tree.add(K_AGGREGATE, at, query, clause, isInner);
       tree.put(node, N_ARG, which);
       Query q = tree.queryAt(query);
       if (q != null && (clause == IN_WHAT || clause == IN_ORDER)) {
@@ -2602,7 +2639,7 @@ public final class Sessionstore {
         return NONE;
       }
       at++;
-      int node = node(isOuter ? K_OUTER : K_REF, place);
+      int node = tree.add(isOuter ? K_OUTER : K_REF, place, query, clause, isInner);
       tree.put(node, N_ARG, isNamed ? source : 0);
       tree.put(node, N_MORE, column);
       return node;
@@ -2617,7 +2654,7 @@ public final class Sessionstore {
       if (peek() != word) {
         return first;
       }
-      int parts = node(word == OR ? K_OR : K_AND, at);
+      int parts = tree.add(word == OR ? K_OR : K_AND, at, query, clause, isInner);
       tree.put(parts, N_FIRST, first);
       int last = first;
       for (int i = 0; i < TOKENS_MOST && take(word); i++) {
@@ -2636,7 +2673,7 @@ public final class Sessionstore {
       if (!open(NOT, depth)) {
         return NONE;
       }
-      int node = node(K_NOT, place);
+      int node = tree.add(K_NOT, place, query, clause, isInner);
       tree.put(node, N_FIRST, readNeg(depth + 1));
       return node;
     }
@@ -2648,14 +2685,14 @@ public final class Sessionstore {
         if (!open(BRACKET, depth)) {
           return NONE;
         }
-        int node = node(K_NEST, place);
+        int node = tree.add(K_NEST, place, query, clause, isInner);
         tree.put(node, N_FIRST, readCond(depth + 1));
         expect(UNBRACKET);
         return node;
       }
       if (token == EXISTS) {
         at++;
-        int node = node(K_EXISTS, place);
+        int node = tree.add(K_EXISTS, place, query, clause, isInner);
         if (open(OPEN, depth)) {
           tree.put(node, N_MORE, readQuery(depth + 1, AS_EXISTENCE));
           expect(CLOSE);
@@ -2667,11 +2704,19 @@ public final class Sessionstore {
       if (token >= EQUAL && token <= MORE_EQUAL) {
         return readCompare(depth, left, place);
       }
-      return token == IS ? readIsNull(left) : readIn(depth, left);
+      if (token != IS) {
+        return readIn(depth, left);
+      }
+      int node = tree.add(K_IS_NULL, at, query, clause, isInner);
+      at++;
+      tree.put(node, N_FIRST, left);
+      tree.put(node, N_ARG, take(NOT) ? NOT : NONE);
+      expect(NULL_WORD);
+      return node;
     }
 
     private int readCompare(int depth, int left, int place) {
-      int node = node(K_COMPARE, at);
+      int node = tree.add(K_COMPARE, at, query, clause, isInner);
       tree.put(node, N_ARG, peek());
       at++;
       tree.put(node, N_FIRST, left);
@@ -2683,15 +2728,6 @@ public final class Sessionstore {
       return node;
     }
 
-    private int readIsNull(int left) {
-      int node = node(K_IS_NULL, at);
-      at++;
-      tree.put(node, N_FIRST, left);
-      tree.put(node, N_ARG, take(NOT) ? NOT : NONE);
-      expect(NULL_WORD);
-      return node;
-    }
-
     private int readIn(int depth, int left) {
       boolean isNot = take(NOT);
       int place = at;
@@ -2700,7 +2736,7 @@ public final class Sessionstore {
         return NONE;
       }
       boolean isQuery = peek() == SELECT;
-      int node = node(isQuery ? K_IN_QUERY : K_IN_LIST, place);
+      int node = tree.add(isQuery ? K_IN_QUERY : K_IN_LIST, place, query, clause, isInner);
       tree.put(node, N_ARG, isNot ? NOT : NONE);
       tree.put(node, N_FIRST, left);
       if (isQuery) {
@@ -2755,6 +2791,7 @@ public final class Sessionstore {
       return level >= 0 && level < LEVELS ? out[level] : nothing;
     }
 
+    /** NULL lies beyond the bounds itself, and stays. */
     private static int bound(int value) {
       return value < -BOUND || value > BOUND ? NULL : value;
     }
@@ -2764,10 +2801,10 @@ public final class Sessionstore {
         return NULL;
       }
       switch (sign) {
-        case PLUS: return bound(a + b);
-        case MINUS: return bound(a - b);
-        case STAR: return bound(a * b);
-        default: return b == 0 ? NULL : bound(a / b);
+        case PLUS: return a + b;
+        case MINUS: return a - b;
+        case STAR: return a * b;
+        default: return b == 0 ? NULL : a / b;
       }
     }
 
@@ -2802,7 +2839,8 @@ public final class Sessionstore {
     }
 
     private static int spotOf(int table, int key) {
-      return isTable(table) && key >= 0 && key < KEYS ? (table * KEYS + key) * COLUMNS : NONE;
+      boolean isThere = table >= 0 && table < TABLES && key >= 0 && key < KEYS;
+      return isThere ? (table * KEYS + key) * COLUMNS : NONE;
     }
 
     void placeKey(int table, int key) {
@@ -2846,7 +2884,7 @@ public final class Sessionstore {
         if (part == NONE) {
           break;
         }
-        value = combine(tree.get(part, N_MARK), value, reckon(part, level, depth + 1));
+        value = bound(combine(tree.get(part, N_MARK), value, reckon(part, level, depth + 1)));
       }
       return value;
     }
@@ -3252,7 +3290,16 @@ public final class Sessionstore {
       } else if (tree.verb == INSERT) {
         workValues(t);
       } else {
-        workRows(t);
+        fresh.reset(t.columns);
+        for (int k = 0; k < KEYS; k++) {
+          engine.placeKey(tree.table, k);
+          boolean isMeant = view.holds(tree.table, k);
+          if (isMeant && (tree.cond == NONE || engine.test(tree.cond, 0, 0) == TRUE)) {
+            oldKeys |= 1 << k;
+            count++;
+            workSets(k, t.columns);
+          }
+        }
       }
       needKeys(t);
     }
@@ -3268,25 +3315,11 @@ public final class Sessionstore {
       count = 1;
     }
 
-    private void workRows(Table t) {
-      fresh.reset(t.columns);
-      for (int k = 0; k < KEYS; k++) {
-        if (!view.holds(tree.table, k)) {
-          continue;
-        }
-        engine.placeKey(tree.table, k);
-        if (tree.cond != NONE && engine.test(tree.cond, 0, 0) != TRUE) {
-          continue;
-        }
-        oldKeys |= 1 << k;
-        count++;
-        if (tree.verb == UPDATE) {
-          workSets(k, t.columns);
-        }
-      }
-    }
-
+    /** The new row of an update; none of a delete. */
     private void workSets(int key, int columns) {
+      if (tree.verb != UPDATE) {
+        return;
+      }
       for (int c = 0; c < COLUMNS; c++) {
         row[c] = view.cellAt(tree.table, key, c);
       }
@@ -3499,16 +3532,13 @@ public final class Sessionstore {
       kept = kept < REPLAYS ? kept + 1 : REPLAYS;
     }
 
-    boolean isTrue() {
-      for (int i = 0; i < kept && i < REPLAYS; i++) {
-        if (!isSame(trails[i], ahead[i], done[i])) {
-          return false;
-        }
+    /** Whether the transaction of that number among those that are kept does the same, run alone. */
+    boolean isSame(int one) {
+      if (one < 0 || one >= kept || one >= REPLAYS) {
+        return true;
       }
-      return true;
-    }
-
-    private boolean isSame(Rows trail, Image before, Image changes) {
+      Rows trail = trails[one];
+      Image before = ahead[one];
       ghost.clear();
       ghost.open(1, SERIAL, false, 0, before);
       int at = 0;
@@ -3539,7 +3569,7 @@ public final class Sessionstore {
           at += R_ALL + 2;
         }
       }
-      return ghost.changes.isLike(changes);
+      return ghost.changes.isLike(done[one]);
     }
 
     private boolean isTold(Rows trail, int at) {
