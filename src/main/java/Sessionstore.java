@@ -1401,7 +1401,7 @@ public final class Sessionstore {
     }
 
     void clearTable(int table) {
-      if (isTable(table)) {
+      if (table >= 0 && table < TABLES) {
         has[table] = 0;
         touched[table] = 0;
       }
@@ -1437,13 +1437,13 @@ public final class Sessionstore {
     }
 
     void remove(int table, int keys) {
-      if (isTable(table)) {
+      if (table >= 0 && table < TABLES) {
         has[table] &= ~keys;
       }
     }
 
     void touch(int table, int keys) {
-      if (isTable(table)) {
+      if (table >= 0 && table < TABLES) {
         touched[table] |= keys;
       }
     }
@@ -1471,7 +1471,7 @@ public final class Sessionstore {
     }
 
     boolean isLikeIn(int table, Image other) {
-      if (!isTable(table) || has[table] != other.has[table]) {
+      if (table < 0 || table >= TABLES || has[table] != other.has[table]) {
         return false;
       }
       for (int k = 0; k < KEYS; k++) {
@@ -3164,7 +3164,7 @@ public final class Sessionstore {
     }
 
     private int columnsOf(int table) {
-      return isTable(table) ? tables[table].columns : 0;
+      return table >= 0 && table < tables.length ? tables[table].columns : 0;
     }
   }
 
