@@ -2950,7 +2950,7 @@ public final class Sessionstore {
       int part = tree.get(node, N_FIRST);
       for (int i = 0; i < NODES_MOST && part != NONE && so != end; i++) {
         int one = test(part, level, depth + 1);
-        so = isOr == one > so ? one : so;
+        so = isOr ? Math.max(so, one) : Math.min(so, one);
         part = tree.get(part, N_NEXT);
       }
       return so;
@@ -3497,7 +3497,6 @@ public final class Sessionstore {
     private final Image[] ahead = new Image[REPLAYS];
     private final Image[] done = new Image[REPLAYS];
     private final Session ghost = new Session();
-    private final Rows steps = new Rows();
     private int kept;
     private int next;
 
