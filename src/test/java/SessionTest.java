@@ -214,6 +214,8 @@ public final class SessionTest {
     run(x, 0, "insert T0 values ( 1 , 1 )", -18);
     int records = x.disc(0);
     run(x, 0, "delete T0 where c0 = 1", -19);
+    T.same("error", 9, x.result(0, 3));
+    T.same("place", -1, x.result(0, 4));
     T.same("rolled back", 0, x.ofSession(0, 2));
     T.same("its change is taken back", records + 1, x.disc(0));
     x.begin(0, 1);
