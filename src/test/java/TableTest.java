@@ -277,24 +277,44 @@ public final class TableTest {
     return next(d, x.isSound() ? 1 : 0);
   }
 
+  /** An object behind so many steps; each is asked for once alone, as 512 calls are soon made. */
+  private static Sessionstore behind(int steps) {
+    Sessionstore x = plain();
+    if (steps > 0) {
+      x.begin(0, 2);
+      Tests.must(x, 0, "select c0 , c1 from T0");
+      Tests.must(x, 0, "update T1 set c2 = null where c0 = 5");
+      x.savepoint(0, 1);
+      Tests.run(x, 1, "delete T0");
+      Tests.run(x, 2, "select c0 from");
+      x.sample(3, 9, 1, 2);
+    }
+    if (steps > 1) {
+      x.commit(0);
+    }
+    if (steps > 2) {
+      x.crash(false);
+    }
+    if (steps > 3) {
+      x.recover(-1);
+    }
+    if (steps > 4) {
+      Tests.must(x, 0, "create T3 ( c0 , c1 )");
+      Tests.must(x, 0, "insert T3 values ( 19 , null )");
+      x.begin(1, 2);
+      Tests.must(x, 1, "select * from T3");
+      Tests.run(x, 2, "delete T3");
+    }
+    if (steps > 5) {
+      x.commit(1);
+    }
+    return x;
+  }
+
   private static void promise48Digest() {
-    Sessionstore x = new Sessionstore();
-    T.same("new", told(x), x.digest());
-    x = plain();
-    T.same("plain", told(x), x.digest());
-    x.begin(0, 2);
-    Tests.must(x, 0, "select c0 , c1 from T0");
-    Tests.must(x, 0, "update T1 set c2 = null where c0 = 5");
-    x.savepoint(0, 1);
-    Tests.run(x, 1, "delete T0");
-    Tests.run(x, 2, "select c0 from");
-    x.sample(3, 9, 1, 2);
-    T.same("with locks and waits", told(x), x.digest());
-    x.commit(0);
-    T.same("behind a commit", told(x), x.digest());
-    x.crash(false);
-    T.same("off", told(x), x.digest());
-    x.recover(-1);
-    T.same("recovered", told(x), x.digest());
+    T.same("new", told(new Sessionstore()), new Sessionstore().digest());
+    for (int steps = 0; steps <= 6; steps++) {
+      T.same("behind " + steps + " steps", told(behind(steps)), behind(steps).digest());
+    }
   }
 }

@@ -1,4 +1,9 @@
-/** What the tests share: a count of wrong answers, and statements typed as text. */
+import java.io.IOException;
+import java.io.UncheckedIOException;
+import java.nio.file.Files;
+import java.nio.file.Path;
+
+/** What the tests share: a count of wrong answers, the sentences that they hold, and statements typed as text. */
 final class Tests {
   static final int OUT = 1;
   static final int ARGUMENT = 2;
@@ -9,7 +14,10 @@ final class Tests {
       + " index check refs notnull and or not is null in exists count sum min max * + - / ( ) [ ] , = <> < <= > >="
       + " outer a b c T0 T1 T2 T3 c0 c1 c2 c3").split(" ");
 
+  private static final String DOCUMENT = document();
+
   private final String name;
+  private String sentence = "";
   private int wrong;
   private int asked;
 
@@ -19,6 +27,30 @@ final class Tests {
 
   interface Call {
     Object ask();
+  }
+
+  /** The text of DOC.md, with one blank wherever there are blanks or ends of lines. */
+  private static String document() {
+    try {
+      return Files.readString(Path.of("../shared/DOC.md")).replaceAll("\\s+", " ");
+    } catch (IOException e) {
+      throw new UncheckedIOException(e);
+    }
+  }
+
+  /** The sentence of the document that the next answers hold; it has to stand there, word for word. */
+  void says(String said) {
+    sentence = said;
+    same("stands in the document: " + said, true, DOCUMENT.contains(said));
+  }
+
+  /** The like of a promise. */
+  void promise(int number, String said) {
+    sentence = "promise " + number + ": " + said;
+    int from = DOCUMENT.indexOf("## Promise " + number + ":");
+    int to = DOCUMENT.indexOf("## ", from + 3);
+    boolean isSaid = from >= 0 && to > from && DOCUMENT.substring(from, to).contains(said);
+    same("stands in the document: " + sentence, true, isSaid);
   }
 
   /** The number of a token, by its word. */
@@ -31,10 +63,20 @@ final class Tests {
     return 100 + Integer.parseInt(word);
   }
 
+  /** The word of a token. */
+  static String word(int token) {
+    return token >= 100 ? String.valueOf(token - 100) : WORDS[token];
+  }
+
   /** Types a text behind what is typed. */
   static void type(Sessionstore x, int session, String text) {
-    for (String word : text.trim().split(" +")) {
-      x.say(session, token(word), -1, -1, -1, -1);
+    String[] words = text.trim().split(" +");
+    for (int i = 0; i < words.length; i += 5) {
+      int[] five = {-1, -1, -1, -1, -1};
+      for (int k = 0; k < 5 && i + k < words.length; k++) {
+        five[k] = token(words[i + k]);
+      }
+      x.say(session, five[0], five[1], five[2], five[3], five[4]);
     }
   }
 
@@ -83,6 +125,9 @@ final class Tests {
     if (!want.equals(got)) {
       wrong++;
       System.out.println(name + ": " + what + " answered " + got + ", due is " + want);
+      if (!sentence.isEmpty()) {
+        System.out.println("  the sentence: " + sentence);
+      }
     }
   }
 
