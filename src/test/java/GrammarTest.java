@@ -35,6 +35,8 @@ public final class GrammarTest {
   };
 
   public static void main(String[] args) {
+    rules();
+    fromTheLeft();
     whatCanStand();
     mixed();
     tooEarlyAndEmpty();
@@ -76,6 +78,45 @@ public final class GrammarTest {
   private static void place(String what, Sessionstore x, int want) {
     boolean isSyntax = x.fault(0, 0) == 1;
     T.same(what, want, isSyntax ? x.fault(0, 1) : -1);
+  }
+
+  /** The rules that Grammar has, as the document tells them. */
+  private static void rules() {
+    T.says("statement: query | insert T values \"(\" expr {, expr} \")\" | insert T query | update T set C = expr {, C = expr}"
+        + " [where cond] | delete T [where cond] | create T \"(\" spec {, spec} \")\" [check cond] | drop T | index T C");
+    T.says("spec: C [notnull] [refs T]");
+    T.says("query: select what from T {(join | left) T on cond} [where cond] [group ref {, ref}] [having cond] [order item"
+        + " {, item}] [limit N]; at most three T in all");
+    T.says("what: * | expr {, expr} item: expr [desc]");
+    T.says("expr: term {(+ | -) term}, from the left; term: factor {(* | /) factor}, from the left");
+    T.says("factor: N | null | - factor | \"(\" expr \")\" | \"(\" query \")\" | ref | count \"(\" * \")\" | (count | sum | min"
+        + " | max) \"(\" expr \")\"");
+    T.says("ref: [outer] [a | b | c] C");
+    T.says("cond: conj {or conj}; conj: neg {and neg}; neg: not neg | prim");
+    T.says("prim: \"[\" cond \"]\" | exists \"(\" query \")\" | expr (= | <> | < | <= | > | >=) expr | expr is [not] null |"
+        + " expr [not] in \"(\" query \")\" | expr [not] in \"(\" expr {, expr} \")\"");
+    for (String seed : SEEDS) {
+      int[] all = tokens(seed);
+      Sessionstore x = new Sessionstore();
+      type(x, all, all.length);
+      place(seed, x, GRAMMAR.place(all));
+    }
+  }
+
+  /** From the left, and how the signs bind. */
+  private static void fromTheLeft() {
+    T.says("expr: term {(+ | -) term}, from the left; term: factor {(* | /) factor}, from the left");
+    Sessionstore x = new Sessionstore();
+    Tests.must(x, 0, "create T0 ( c0 )");
+    Tests.must(x, 0, "insert T0 values ( 1 )");
+    T.same("from the left", "3,-7,2,8,3", Tests.ask(x, 0, "select 9 - 4 - 2 , - 5 - 2 , 20 / 5 / 2 , 20 / 5 * 2 , 7 / 2 * 1 from T0"));
+    T.same("* ahead of +", "14,10,20,2", Tests.ask(x, 0, "select 2 + 3 * 4 , 2 * 3 + 4 , ( 2 + 3 ) * 4 , 4 - 4 / 2 from T0"));
+    T.says("cond: conj {or conj}; conj: neg {and neg}; neg: not neg | prim");
+    T.same("and ahead of or", 1, Tests.run(x, 0, "select 1 from T0 where 1 = 1 or 1 = 1 and 1 = 2"));
+    T.same("and ahead of or", 1, Tests.run(x, 0, "select 1 from T0 where 1 = 2 and 1 = 2 or 1 = 1"));
+    T.same("brackets first", 0, Tests.run(x, 0, "select 1 from T0 where [ 1 = 1 or 1 = 1 ] and 1 = 2"));
+    T.same("not ahead of and", 0, Tests.run(x, 0, "select 1 from T0 where not 1 = 2 and 1 = 2"));
+    T.same("not of brackets", 1, Tests.run(x, 0, "select 1 from T0 where not [ 1 = 2 and 1 = 2 ]"));
   }
 
   /** Behind each beginning of each statement each TOKEN that there is. */

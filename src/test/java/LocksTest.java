@@ -20,6 +20,7 @@ public final class LocksTest {
     writesOfTheSecondStep();
     readsOfTheSecondStep();
     alsoWithAnError();
+    heldAndDone();
     locksWithAnError();
     conflict();
     conflictAtTheEdges();
@@ -511,6 +512,26 @@ public final class LocksTest {
     run(x, 0, "insert T1 values ( 5 , 50 )", -20);
     T.same("no READ beyond 19", ALL, x.locks(0, 0, false));
     T.same("the KEY", keys(5), x.locks(0, 1, true));
+  }
+
+  private static void heldAndDone() {
+    T.says("To run a statement without an ERROR 1 to 4:");
+    T.says("Otherwise all these locks are held, and it is done.");
+    Sessionstore x = plain();
+    x.begin(0, 2);
+    run(x, 0, "update T0 set c0 = 9 where c0 = 3", 1);
+    T.same("of the first step", keys(3) + " " + ALL, x.locks(0, 0, false) + " " + x.locks(0, 1, false));
+    T.same("of the second step", keys(3, 9), x.locks(0, 0, true));
+    T.same("done", "1,10;2,20;9,30", x.seen(0, 0));
+    run(x, 0, "insert T1 values ( 0 , 9 )", 1);
+    T.same("to which it REFERS", keys(3, 9), x.locks(0, 0, false));
+    T.same("its KEY", keys(0), x.locks(0, 1, true));
+    x.begin(1, 2);
+    run(x, 1, "select c0 from T3", -12);
+    run(x, 1, "select * from T0 where c0 = 3 group c0", -13);
+    run(x, 1, "select * from T0 where c0 = 3 group", -11);
+    T.same("none waits with an ERROR 1 to 3, whatever is held", "", x.waits());
+    T.same("nor holds one", 0, x.locks(1, 0, false));
   }
 
   private static void locksWithAnError() {

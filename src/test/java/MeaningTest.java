@@ -352,6 +352,7 @@ public final class MeaningTest {
     T.same("without RECORDS", records, x.disc(0));
     T.same("no answer", "", x.answer(0));
     T.same("0 ROWS", 0, x.result(0, 1));
+    T.says("also if they are as they were; these have RECORDS and VERSIONS, too),");
     run(x, "update T0 set c1 = c1 where c0 = 0", 1);
     T.same("as it was has a number", 5, x.disc(4));
     T.same("and RECORDS", records + 2, x.disc(0));

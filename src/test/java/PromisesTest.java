@@ -9,6 +9,7 @@ public final class PromisesTest {
     wipe();
     run();
     numbersAndNone();
+    discReturns();
     giveUp();
     lazy();
     textsOfNothing();
@@ -201,6 +202,38 @@ public final class PromisesTest {
     T.same("none", 0, x.back(0, 1));
     T.same("two", 2, x.back(0, 0));
     T.same("none again", 0, x.back(0, 0));
+  }
+
+  private static void discReturns() {
+    T.promise(13, "The next RECORDS get SAFE.");
+    T.promise(13, "Returns how many are SAFE then.");
+    Sessionstore x = plain();
+    x.lazy(true);
+    run(x, 0, "update T0 set c1 = 1", 3);
+    T.same("of 14, 10 are", "11 13 14 14", x.safe(1) + " " + x.safe(2) + " " + x.safe(1) + " " + x.safe(1));
+    run(x, 0, "update T0 set c1 = 2", 3);
+    T.promise(14, "Returns how many RECORDS are SAFE.");
+    T.same("of 18", 14, x.pages(7));
+    T.promise(15, "Returns how many RECORDS are SAFE.");
+    T.same("all 18", 18, x.checkpoint());
+    T.promise(16, "CRASH. - `isTorn`: whether a page is torn by it");
+    run(x, 0, "update T0 set c1 = 3 where c0 = 0", 1);
+    T.same("the last one", 1, x.crash(true));
+    T.promise(17, "- `steps`: how many; NONE: it is not broken off Returns the last COMMIT number.");
+    T.same("the one ahead of it", 7, x.recover(-1));
+    T.promise(18, "VACUUM. Returns how many VERSIONS went.");
+    T.same("one of each is left", 0, x.vacuum());
+    run(x, 0, "update T0 set c1 = 4", 3);
+    run(x, 0, "delete T0 where c0 = 0", 1);
+    T.same("three of the KEY that is GONE, one of each of the others", 5, x.vacuum());
+    T.same("none again", 0, x.vacuum());
+    T.promise(19, "Knocks. Returns how many were REFUSED ever, with this.");
+    T.same("with this", "1 2", x.knock() + " " + x.knock());
+    T.promise(43, "Returns LOW, as for VACUUM.");
+    T.same("the last COMMIT number", 9, x.low());
+    x.begin(0, 1);
+    run(x, 1, "update T0 set c1 = 5 where c0 = 5", 1);
+    T.same("as it began", 9, x.low());
   }
 
   private static void giveUp() {
@@ -784,7 +817,10 @@ public final class PromisesTest {
   }
 
   private static void isSound() {
-    T.promise(47, "Returns whether all of this is so (true while OFF):");
+    T.promise(47, "Returns whether all of this is so (true while OFF): what is COMMITTED holds what always holds (section 1);");
+    T.promise(47, "each INDEX tells what all ROWS tell; each query that is TYPED tells the same ROWS by the planner and by going"
+        + " through all; what would be found behind a crash now, by what is on the disc, is what the SAFE COMMITS made; and no"
+        + " ring of SESSIONS WAITS.");
     Sessionstore x = plain();
     run(x, 0, "index T0 c1", 0);
     x.lazy(true);

@@ -312,6 +312,10 @@ public final class TableTest {
   }
 
   private static void promise48Digest() {
+    T.promise(48, "for each v in this order: disc() of 0 to 5; while ON: house() of 0 to 7; SESSION by SESSION ofSession() of 0 to"
+        + " 7, result() of 0 to 4, the length of answer(), TABLE by TABLE locks() of READ, then of WRITE; TABLE by TABLE ofTable()"
+        + " of 0 to 5, COLUMN by COLUMN ofColumn() of 0 to 2, ROW by ROW that is COMMITTED its VALUES (-99999 for NULL), KEY by"
+        + " KEY the length of versions(); the lengths of order() and waits(); at last 1 if isSound(), otherwise 0.");
     T.same("new", told(new Sessionstore()), new Sessionstore().digest());
     for (int steps = 0; steps <= 6; steps++) {
       T.same("behind " + steps + " steps", told(behind(steps)), behind(steps).digest());
