@@ -42,6 +42,7 @@ public final class LocksTest {
     savepointGone();
     takenBackTwice();
     results();
+    placeIsGone();
     resultOfRollback();
     order();
     orderAndCrash();
@@ -823,6 +824,29 @@ public final class LocksTest {
     T.same("who went on", 1, x.result(0, 0));
     x.rollback(0);
     T.same("then it is done", 13, x.cell(0, 1, 1));
+    for (int out = 0; out < 4; out++) {
+      greatestIsOut(out);
+    }
+  }
+
+  /** A ring of two, and the greatest number is that of a session that is not in it. */
+  private static void greatestIsOut(int out) {
+    int one = (out + 1) % 4;
+    int other = (out + 2) % 4;
+    for (int waits = 0; waits < 2; waits++) {
+      Sessionstore x = plain();
+      x.begin(one, 0);
+      x.begin(other, 0);
+      x.begin(out, 0);
+      set(x, one, 1, 11, 1);
+      set(x, other, 2, 22, 1);
+      set(x, out, waits == 1 ? 1 : 3, 33, waits == 1 ? -2 : 1);
+      set(x, one, 2, 12, -2);
+      set(x, other, 1, 21, -21);
+      T.same("who went on", "1 1 0 0 -1/", result(x, one));
+      T.same("who is out of it stays", waits == 1 ? out + ">" + one : "", x.waits());
+      T.same("with its transaction", 6, x.ofSession(out, 2));
+    }
   }
 
   private static void twoRings() {
@@ -1081,6 +1105,35 @@ public final class LocksTest {
     T.same("ERROR 12", "3 0 0 12 -1/", result(x, 1));
     x.rollback(0);
     T.same("the RESULT is that of the last statement", "1 1 0 0 -1/", result(x, 0));
+  }
+
+  private static void placeIsGone() {
+    T.says("and PLACE, NONE but for 1 to 3");
+    String[] texts = {"select c0 from T0 where c0 = 1", "delete T0 where c0 > 3", "index T0 c1", "create T0 ( c0 )",
+        "insert T0 values ( 20 , 0 )", "insert T0 values ( 1 , 0 )"};
+    String[] told = {"2 1 1 0 -1/1", "1 0 0 0 -1/", "5 0 0 0 -1/", "3 0 0 4 -1/", "3 0 0 5 -1/", "3 0 0 8 -1/"};
+    for (int i = 0; i < texts.length; i++) {
+      Sessionstore x = plain();
+      run(x, 1, "select c0 from c0", -11);
+      T.same("PLACE", "3 0 0 1 3/", result(x, 1));
+      run(x, 1, "select 1 , c3 from T0", -12);
+      T.same("PLACE of a NAME", "3 0 0 2 3/", result(x, 1));
+      Tests.run(x, 1, texts[i]);
+      T.same("none behind it: " + texts[i], told[i], result(x, 1));
+    }
+    Sessionstore x = plain();
+    x.begin(0, 0);
+    set(x, 0, 1, 1, 1);
+    run(x, 1, "select", -11);
+    T.same("PLACE", "3 0 0 1 1/", result(x, 1));
+    set(x, 1, 1, 2, -2);
+    T.same("WAITS", "4 0 0 0 -1/", result(x, 1));
+    x.rollback(1);
+    T.same("KIND 0", "0 0 0 0 -1/", result(x, 1));
+    run(x, 1, "select", -11);
+    x.crash(false);
+    x.recover(-1);
+    T.same("gone with a crash", "0 0 0 0 -1/", result(x, 1));
   }
 
   private static void resultOfRollback() {

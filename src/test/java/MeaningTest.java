@@ -143,6 +143,14 @@ public final class MeaningTest {
     ask(x, "select b c1 , c1 from T0 join T1 on c0 < 1 group b c1 , c1", "4,5;19,5;-,5");
     ask(x, "select b c1 , count ( * ) from T0 left T1 on b c0 = c0 + 6 group b c1", "4,2;-,4");
     ask(x, "select c1 from T0 where c1 is not null group c1", "5;7");
+    Sessionstore y = new Sessionstore();
+    Tests.must(y, 0, "create T0 ( c0 , c1 , c2 , c3 )");
+    for (int key = 0; key < 16; key++) {
+      Tests.must(y, 0, "insert T0 values ( " + key + " , " + key / 8 + " , " + key / 4 % 2 + " , " + key / 2 % 2 + " )");
+    }
+    ask(y, "select min ( c0 ) , count ( * ) from T0 group c1 , c2 , c3", "0,2;2,2;4,2;6,2;8,2;10,2;12,2;14,2");
+    ask(y, "select c3 , min ( c0 ) from T0 group c3 , c2 , c1 having c1 = 0 order c2 desc , c3 desc", "1,6;0,4;1,2;0,0");
+    ask(y, "select max ( c0 ) , c1 , c2 from T0 group c1 , c2", "3,0,0;7,0,1;11,1,0;15,1,1");
   }
 
   private static void groupOfNone() {

@@ -213,6 +213,27 @@ public final class NamesTest {
     fault("select max ( c0 ) from T0 where exists ( select 1 from T0 where max ( c0 ) = 1 )", "3@15");
     fault("select ( select 1 from T0 where max ( c0 ) = 1 ) from T0", "3@7");
     fault("update T0 set c0 = ( select max ( c0 ) from T0 )", "");
+    behindAQuery();
+  }
+
+  /** What stands behind a query stands where it stood ahead of it. */
+  private static void behindAQuery() {
+    String[] tails = {"where 1 = 1", "group c0", "group c0 having 1 = 1", "order 1", ""};
+    for (String tail : tails) {
+      String query = ("( select 1 from T1 " + tail).trim() + " )";
+      int many = query.split(" ").length;
+      fault("select 1 from T0 where exists " + query + " and count ( * ) = 1", "3@" + (7 + many));
+      fault("select 1 from T0 join T1 on 1 in " + query + " and count ( * ) = 1", "3@" + (10 + many));
+      fault("select 1 from T0 join T1 on 1 = " + query + " and c c0 = 1", "2@" + (10 + many));
+      fault("select " + query + " + count ( * ) from T0", "");
+      fault("select 1 from T0 having 1 = " + query + " and count ( * ) = 1 order " + query + " , count ( * )", "");
+      fault("select sum ( " + query + " + max ( c0 ) ) from T0", "3@" + (4 + many));
+      fault("select 1 , " + query + " + c0 , count ( * ) from T0", "3@" + (4 + many));
+      fault("select 1 from T0 where 1 = " + query + " and c0 = 1 group c1", "");
+      fault("update T0 set c0 = " + query + " + count ( * )", "3@" + (6 + many));
+      fault("update T0 set c0 = " + query + " + outer c0", "2@" + (6 + many));
+      fault("delete T0 where 1 = " + query + " and min ( c0 ) = 1", "3@" + (6 + many));
+    }
   }
 
   private static void aggregatesWithinOneAnother() {

@@ -595,6 +595,41 @@ public final class RecordsTest {
     T.same("last", 2, x.recover(5));
     T.same("rows", "1,1;2,2", x.table(0));
     T.same("LAZY also behind a crash", 1, x.disc(3));
+    someAreSafe();
+  }
+
+  /** Of several LAZY COMMITS some are SAFE as the power fails. */
+  private static void someAreSafe() {
+    for (int safe = 0; safe <= 6; safe++) {
+      Sessionstore x = plain();
+      x.lazy(true);
+      for (int value = 5; value < 8; value++) {
+        set(x, 0, 1, value);
+      }
+      disc(x, "ahead", "10 4 5 2");
+      if (safe > 0) {
+        T.same("SAFE", 4 + safe, x.safe(safe));
+      }
+      int last = 2 + safe / 2;
+      disc(x, "some are SAFE", "10 " + (4 + safe) + " 5 " + last);
+      T.same("lost", 5 - last, x.crash(safe % 2 == 0));
+      T.same("last", last, x.recover(safe));
+      disc(x, "none yet", "0 0 " + last + " " + last);
+      set(x, 0, 1, 8);
+      set(x, 0, 1, 9);
+      disc(x, "none is SAFE", "4 0 " + (last + 2) + " " + last);
+      x.safe(2);
+      disc(x, "one is", "4 2 " + (last + 2) + " " + (last + 1));
+      T.same("one is lost", 1, x.crash(false));
+      x.recover(-1);
+      T.same("the other one stays", "1,8;2,2", x.table(0));
+      x.lazy(false);
+      set(x, 0, 1, 3);
+      disc(x, "all are SAFE", "2 2 " + (last + 2) + " " + (last + 2));
+      T.same("none is lost", 0, x.crash(true));
+      x.recover(99);
+      T.same("rows", "1,3;2,2", x.table(0));
+    }
   }
 
   private static void knocks() {
