@@ -7,7 +7,10 @@ import java.nio.file.Path;
 import java.util.HashMap;
 import java.util.Map;
 
-/** Long runs of calls with the answers that a second program, made from the document alone, gave to them. */
+/**
+ * Long runs of calls with the answers that other programs, made from the document alone, gave to them: a second one
+ * to the runs "all", "lock" and "syntax", a third one to the runs "record".
+ */
 public final class RunsTest {
   private static final Tests T = new Tests("RunsTest");
   private static final Map<String, Method> METHODS = new HashMap<>();
