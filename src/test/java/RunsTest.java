@@ -8,8 +8,8 @@ import java.util.HashMap;
 import java.util.Map;
 
 /**
- * Long runs of calls with the answers that other programs, made from the document alone, gave to them: a second one
- * to the runs "all", "lock" and "syntax", a third one to the runs "record".
+ * Long runs of calls with the answers that other programs gave to them: a second one, made from the document alone, to
+ * the runs "all", "lock" and "syntax"; a third one, made from the document after the class was read, to "record".
  */
 public final class RunsTest {
   private static final Tests T = new Tests("RunsTest");
